@@ -1,0 +1,148 @@
+import java.util.Random;
+
+/** Long runs of calls, the same each time: each answer or exception is the plain model's one. */
+public final class RandomRunsTest {
+    private static final int RUNS = 1500;
+    private static final int CALLS = 512;
+    private static final int[] STRANGE = {Integer.MIN_VALUE, -33, -1, 8, 9, 10, 12, 20, 24, 32, 120, 100001,
+        Integer.MAX_VALUE};
+
+    private interface Call {
+        int answer();
+    }
+
+    private static final Checks C = new Checks();
+    private final Random random;
+    private final DeclareStates x = new DeclareStates();
+    private final PlainModel model = new PlainModel();
+    private final String run;
+
+    private RandomRunsTest(int seed) {
+        random = new Random(seed);
+        run = "run " + seed + ": ";
+    }
+
+    public static void main(String[] args) {
+        for (int seed = 0; seed < RUNS; seed++) {
+            RandomRunsTest one = new RandomRunsTest(seed);
+            for (int i = 0; i < CALLS; i++) {
+                one.call();
+            }
+            one.compareAll();
+        }
+        C.end();
+    }
+
+    // Mostly a number that is good, now and then a strange one.
+    private int number(int below) {
+        if (random.nextInt(40) == 0) {
+            return STRANGE[random.nextInt(STRANGE.length)];
+        }
+        return random.nextInt(Math.max(1, below));
+    }
+
+    private int declarationNumber() {
+        return number(Math.min(6, x.count(1)));
+    }
+
+    private int time() {
+        return random.nextInt(40) == 0 ? number(100001) : x.count(4) + random.nextInt(8);
+    }
+
+    // Mostly an act that its declaration's state allows, by somebody who may tell it.
+    private int likelyAct(int declaration) {
+        int[][] likely = {{0, 1}, {1, 2, 2}, {1, 3, 6, 9}, {4, 5, 6, 9}, {7, 8}, {8}, {0}, {8}};
+        if (declaration < 0 || declaration >= x.count(1) || random.nextInt(5) == 0) {
+            return number(10);
+        }
+        int[] acts = likely[x.look(declaration, 0)];
+        return acts[random.nextInt(acts.length)];
+    }
+
+    private void same(String call, Call own, Call plain) {
+        String got = answerOf(own);
+        String want = answerOf(plain);
+        if (!got.equals(want)) {
+            C.due(run + call + " gave " + got + ", the model " + want, true, false);
+        }
+    }
+
+    private static String answerOf(Call call) {
+        try {
+            return Integer.toString(call.answer());
+        } catch (RuntimeException e) {
+            return e.getClass().getName();
+        }
+    }
+
+    private void call() {
+        int choice = random.nextInt(100);
+        if (choice < 8) {
+            int role = number(3);
+            same("person(" + role + ")", () -> x.person(role), () -> model.person(role));
+        } else if (choice < 14) {
+            int kind = number(3);
+            int who = number(x.count(0));
+            same("declaration(" + kind + ", " + who + ")", () -> x.declaration(kind, who),
+                () -> model.declaration(kind, who));
+        } else if (choice < 50) {
+            callEvent();
+        } else if (choice < 66) {
+            int time = time();
+            same("tick(" + time + ")", () -> x.tick(time), () -> model.tick(time));
+        } else if (choice < 68) {
+            int from = number(10);
+            int to = 10 + number(15);
+            same("hours(" + from + ", " + to + ")", () -> x.hours(from, to) ? 1 : 0, () -> model.hours(from, to));
+        } else if (choice < 71) {
+            int kind = number(10);
+            boolean on = random.nextBoolean();
+            same("fails(" + kind + ", " + on + ")", () -> x.fails(kind, on) ? 1 : 0, () -> model.fails(kind, on));
+        } else if (choice < 79) {
+            int d = declarationNumber();
+            int kind = number(8);
+            boolean on = random.nextInt(3) == 0;
+            same("bar(" + d + ", " + kind + ", " + on + ")", () -> x.bar(d, kind, on), () -> model.bar(d, kind, on));
+        } else if (choice < 82) {
+            int d = declarationNumber();
+            int who = number(x.count(0));
+            int reason = number(10);
+            same("invalidate(" + d + ", " + who + ", " + reason + ")", () -> x.invalidate(d, who, reason),
+                () -> model.invalidate(d, who, reason));
+        } else {
+            callReader();
+        }
+    }
+
+    private void callEvent() {
+        int d = declarationNumber();
+        int kind = likelyAct(d);
+        int who = number(x.count(0));
+        int time = time();
+        same("event(" + d + ", " + kind + ", " + who + ", " + time + ")", () -> x.event(d, kind, who, time),
+            () -> model.event(d, kind, who, time));
+    }
+
+    private void callReader() {
+        int a = number(20);
+        int b = number(9);
+        same("look(" + a + ", " + b + ")", () -> x.look(a, b), () -> model.look(a, b));
+        same("written(" + a + ", " + b + ")", () -> x.written(a, b), () -> model.written(a, b));
+        same("of(" + a + ", " + b + ")", () -> x.of(a, b), () -> model.of(a, b));
+        same("count(" + a + ")", () -> x.count(a), () -> model.count(a));
+    }
+
+    private void compareAll() {
+        for (int a = -1; a <= 120; a++) {
+            int first = a;
+            for (int b = -1; b <= 9; b++) {
+                int second = b;
+                same("look(" + a + ", " + b + ")", () -> x.look(first, second), () -> model.look(first, second));
+                same("of(" + a + ", " + b + ")", () -> x.of(first, second), () -> model.of(first, second));
+                same("written(" + b + ", " + a + ")", () -> x.written(second, first),
+                    () -> model.written(second, first));
+            }
+            same("count(" + a + ")", () -> x.count(first), () -> model.count(first));
+        }
+    }
+}
