@@ -2,7 +2,7 @@ import java.util.Random;
 
 /** Long runs of calls, the same each time: each answer or exception is the plain model's one. */
 public final class RandomRunsTest {
-    private static final int RUNS = 1500;
+    private static final int RUNS = 600;
     private static final int CALLS = 512;
     private static final int[] STRANGE = {Integer.MIN_VALUE, -33, -1, 8, 9, 10, 12, 20, 24, 32, 120, 100001,
         Integer.MAX_VALUE};
@@ -25,12 +25,22 @@ public final class RandomRunsTest {
     public static void main(String[] args) {
         for (int seed = 0; seed < RUNS; seed++) {
             RandomRunsTest one = new RandomRunsTest(seed);
+            one.begin();
             for (int i = 0; i < CALLS; i++) {
                 one.call();
             }
             one.compareAll();
         }
         C.end();
+    }
+
+    // Most runs begin with two people of each role, so that much can happen in it.
+    private void begin() {
+        for (int i = 0; i < 6 && random.nextInt(12) != 0; i++) {
+            int role = i % 3;
+            same("person(" + role + ")", () -> x.person(role), () -> model.person(role));
+        }
+        same("hours(1, 23)", () -> x.hours(1, 23) ? 1 : 0, () -> model.hours(1, 23));
     }
 
     // Mostly a number that is good, now and then a strange one.
@@ -46,10 +56,22 @@ public final class RandomRunsTest {
     }
 
     private int time() {
-        return random.nextInt(40) == 0 ? number(100001) : x.count(4) + random.nextInt(8);
+        return random.nextInt(200) == 0 ? number(100001) : x.count(4) + random.nextInt(6);
     }
 
-    // Mostly an act that its declaration's state allows, by somebody who may tell it.
+    // Mostly somebody who may tell the act.
+    private int likelyTeller(int declaration, int act) {
+        boolean known = declaration >= 0 && declaration < x.count(1);
+        if (!known || random.nextInt(6) == 0) {
+            return number(x.count(0));
+        }
+        if (act == 0 || act == 6 || act == 9) {
+            return x.look(declaration, 2);
+        }
+        return (act == 1 || act == 7 ? 2 : 1) + 3 * random.nextInt(2);
+    }
+
+    // Mostly an act that its declaration's state allows.
     private int likelyAct(int declaration) {
         int[][] likely = {{0, 1}, {1, 2, 2}, {1, 3, 6, 9}, {4, 5, 6, 9}, {7, 8}, {8}, {0}, {8}};
         if (declaration < 0 || declaration >= x.count(1) || random.nextInt(5) == 0) {
@@ -77,7 +99,7 @@ public final class RandomRunsTest {
 
     private void call() {
         int choice = random.nextInt(100);
-        if (choice < 8) {
+        if (choice < 4) {
             int role = number(3);
             same("person(" + role + ")", () -> x.person(role), () -> model.person(role));
         } else if (choice < 14) {
@@ -87,23 +109,23 @@ public final class RandomRunsTest {
                 () -> model.declaration(kind, who));
         } else if (choice < 50) {
             callEvent();
-        } else if (choice < 66) {
+        } else if (choice < 70) {
             int time = time();
             same("tick(" + time + ")", () -> x.tick(time), () -> model.tick(time));
-        } else if (choice < 68) {
+        } else if (choice < 71) {
             int from = number(10);
             int to = 10 + number(15);
             same("hours(" + from + ", " + to + ")", () -> x.hours(from, to) ? 1 : 0, () -> model.hours(from, to));
-        } else if (choice < 71) {
+        } else if (choice < 73) {
             int kind = number(10);
             boolean on = random.nextBoolean();
             same("fails(" + kind + ", " + on + ")", () -> x.fails(kind, on) ? 1 : 0, () -> model.fails(kind, on));
-        } else if (choice < 79) {
+        } else if (choice < 81) {
             int d = declarationNumber();
             int kind = number(8);
             boolean on = random.nextInt(3) == 0;
             same("bar(" + d + ", " + kind + ", " + on + ")", () -> x.bar(d, kind, on), () -> model.bar(d, kind, on));
-        } else if (choice < 82) {
+        } else if (choice < 83) {
             int d = declarationNumber();
             int who = number(x.count(0));
             int reason = number(10);
@@ -117,7 +139,7 @@ public final class RandomRunsTest {
     private void callEvent() {
         int d = declarationNumber();
         int kind = likelyAct(d);
-        int who = number(x.count(0));
+        int who = likelyTeller(d, kind);
         int time = time();
         same("event(" + d + ", " + kind + ", " + who + ", " + time + ")", () -> x.event(d, kind, who, time),
             () -> model.event(d, kind, who, time));
