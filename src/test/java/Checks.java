@@ -41,9 +41,13 @@ final class Checks {
         }
     }
 
-    private void report(String text) {
+    void report(String text) {
         wrong++;
         System.out.println(text);
+    }
+
+    boolean allAsDue() {
+        return wrong == 0;
     }
 
     void end() {

@@ -64,14 +64,15 @@ public final class Promise11WrittenTest {
     }
 
     private static void allOnOne() {
-        Desk desk = new Desk();
-        int d = desk.x.declaration(0, Desk.OWNER);
+        DeclareStates x = new Desk().x;
+        x.declaration(0, Desk.OWNER);
         for (int i = 0; i < 120; i++) {
-            desk.act(d, i % 2 == 0 ? Desk.PAY : Desk.MEND, Desk.OWNER);
+            x.event(0, i % 2 == 0 ? Desk.PAY : Desk.MEND, Desk.OWNER, i + 1);
+            x.tick(i + 1);
         }
-        C.due("written in all", 120, desk.x.look(d, 5));
+        C.due("written in all", 120, x.look(0, 5));
         for (int i = 0; i < 120; i++) {
-            C.due("written " + i, 16 * 3 + (i % 2 == 0 ? 6 : 9), desk.x.written(d, i));
+            C.due("written " + i, 16 * 3 + (i % 2 == 0 ? 6 : 9), x.written(0, i));
         }
     }
 }
