@@ -18,6 +18,21 @@ final class Checks {
         }
     }
 
+    void due(String call, String want, String got) {
+        if (!got.equals(want)) {
+            report(call + " answered " + got + ", due is " + want);
+        }
+    }
+
+    /** A call's answer, or the very class of what it throws, as one text. */
+    static String answerOf(Call made) {
+        try {
+            return Integer.toString(made.answer());
+        } catch (RuntimeException e) {
+            return "throws." + e.getClass().getSimpleName();
+        }
+    }
+
     void badArgument(String call, Call made) {
         thrown(call, IllegalArgumentException.class, made);
     }
@@ -32,13 +47,7 @@ final class Checks {
 
     // The very class is asked for: a subclass would come from the machine.
     private void thrown(String call, Class<?> want, Call made) {
-        try {
-            report(call + " answered " + made.answer() + ", due is " + want.getSimpleName());
-        } catch (RuntimeException e) {
-            if (e.getClass() != want) {
-                report(call + " threw " + e + ", due is " + want.getSimpleName());
-            }
-        }
+        due(call, "throws." + want.getSimpleName(), answerOf(made));
     }
 
     void report(String text) {

@@ -87,6 +87,36 @@ final class Desk {
         return d;
     }
 
+    /**
+     * A new declaration in ACCEPTED or UNDER CHECK with exactly these marks, held by bar 0.
+     * Import and transit are never there without being PRESENTED.
+     */
+    int held(int kind, int state, int marks) {
+        int d = x.declaration(kind, OWNER);
+        x.bar(d, 0, true);
+        act(d, LODGE, OWNER);
+        if ((marks & 1) != 0) {
+            act(d, PRESENT, PORT);
+        }
+        act(d, ACCEPT, OFFICER);
+        if ((marks & 2) != 0) {
+            act(d, PAY, OWNER);
+        }
+        if ((marks & 4) != 0) {
+            act(d, SELECT, OFFICER);
+            act(d, BAD, OFFICER);
+        }
+        if (state == UNDER_CHECK) {
+            act(d, SELECT, OFFICER);
+        }
+        return d;
+    }
+
+    /** Whether held can bring a kind of declaration to such marks. */
+    static boolean canHold(int kind, int marks) {
+        return kind == EXPORT || (marks & 1) != 0;
+    }
+
     /** Whether inState can bring a kind of declaration there: an import never leaves. */
     static boolean reaches(int kind, int state) {
         return kind != IMPORT || state != LEFT;

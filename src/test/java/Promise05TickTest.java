@@ -52,22 +52,6 @@ public final class Promise05TickTest {
         C.due("tick(10) again", 0, x.tick(10));
     }
 
-    // A letter per act: the states from which it goes, as the document's table tells them.
-    private static final String[] FROM = {"0", "012", "1", "2", "3", "3", "23", "4", "45", "23"};
-
-    private static boolean goes(int kind, int act, int state) {
-        if (act == Desk.LEAVE && kind == Desk.IMPORT) {
-            return false;
-        }
-        if (act == Desk.REVIEW && state == Desk.RELEASED && kind != Desk.IMPORT) {
-            return false;
-        }
-        return FROM[act].indexOf('0' + state) >= 0;
-    }
-
-    // Who may tell an act: o the own trader, t another trader, f an officer, p the port.
-    private static final String[] BY = {"o", "otp", "f", "f", "f", "f", "o", "p", "f", "o"};
-
     private static void everyActFromEveryState() {
         for (int kind = 0; kind < 3; kind++) {
             for (int state = 0; state < 8; state++) {
@@ -88,28 +72,11 @@ public final class Promise05TickTest {
         String call = "act " + act + " by " + who + " on kind " + kind + " in state " + state;
         C.due("the state before " + call, state, desk.x.look(d, 0));
         int changed = desk.x.look(d, 6);
-        boolean presented = (desk.x.look(d, 3) & 1) != 0;
-        int want;
-        if (BY[act].indexOf("otffp".charAt(who)) < 0) {
-            want = -3;
-        } else if (!goes(kind, act, state)) {
-            want = -5;
-        } else if (act == Desk.PRESENT && presented || act == Desk.PAY || act == Desk.MEND
-                || act == Desk.ACCEPT && kind != Desk.EXPORT) {
-            want = -6;
-        } else {
-            want = behind(act, state);
-        }
+        int want = ActTable.due(desk.x, d, act, who);
         C.due(call, want, desk.act(d, act, who));
         C.due("the state behind " + call, want < 0 ? state : want, desk.x.look(d, 0));
         int when = want < 0 || want == state ? changed : desk.x.count(4);
         C.due("the change behind " + call, when, desk.x.look(d, 6));
-    }
-
-    private static int behind(int act, int state) {
-        int[] next = {Desk.LODGED, state, Desk.ACCEPTED, Desk.UNDER_CHECK, Desk.ACCEPTED, Desk.ACCEPTED,
-            state, Desk.LEFT, Desk.CLEARED, state};
-        return next[act];
     }
 
     private static void marksRefuse() {

@@ -82,19 +82,7 @@ public final class RandomRunsTest {
     }
 
     private void same(String call, Checks.Call own, Checks.Call plain) {
-        String got = answerOf(own);
-        String want = answerOf(plain);
-        if (!got.equals(want)) {
-            C.report(run + call + " answered " + got + ", due is " + want);
-        }
-    }
-
-    private static String answerOf(Checks.Call call) {
-        try {
-            return Integer.toString(call.answer());
-        } catch (RuntimeException e) {
-            return e.getClass().getName();
-        }
+        C.due(run + call, Checks.answerOf(plain), Checks.answerOf(own));
     }
 
     private void call() {
