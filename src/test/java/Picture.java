@@ -165,6 +165,8 @@ final class Picture {
         ask("a newcomer", x -> x.person(1));
         ask("a declaration of 0", x -> x.declaration(0, 0));
         ask("tick(" + (time - 1) + ")", x -> x.tick(time - 1));
+        // An act that fails would show neither roles nor hours.
+        ask("fails(" + kind + ", false)", x -> x.fails(kind, false) ? 1 : 0);
         ask("result of act " + kind + " by " + who + " at " + time, x -> {
             int event = x.event(0, kind, who, time);
             x.tick(time);
